@@ -278,6 +278,9 @@ final class PromisesTest {
         Checks.due("120 records are good", 120, verifyOf(small));
         Checks.due("the last one", 119, small.record(119, 1));
         Checks.due("none behind it", -1, small.record(120, 1));
+        small.crash(HIGH);
+        Checks.due("recover 120 records", 0, small.recover());
+        dueCounts("recover 120 records", small, 1200, 1200, 120, 1, 1);
     }
 
     private static void seal() {
@@ -403,7 +406,9 @@ final class PromisesTest {
     }
 
     private static void recoverDropsWhatIsNotWhole() {
-        int[][] bends = {{10, 1, 1}, {10, 2, 1}, {10, 7, 1}, {11, 5, 1}, {11, 3, 1}, {10, 0, 1}, {20, 0, 2}, {21, 3, 2}};
+        int[][] bends = {
+            {10, 1, 1}, {10, 2, 1}, {10, 7, 1}, {11, 5, 1}, {11, 3, 1}, {10, 0, 1}, {20, 0, 2}, {21, 3, 2}
+        };
         // Kinds 0, 6 and 130, a seal of 32 and of 8 bytes, a gap of none; then the third record's kind 3 and length 8.
         for (int[] bend : bends) {
             ForwardLog log = fresh();
@@ -615,7 +620,8 @@ final class PromisesTest {
             bendTo(log, 0, recordOf(over, 3, bytes, new byte[8]));
             boolean good = over >= 1 && over <= 1000;
             Checks.due("verify of a gap over " + over, good ? 1 : -3, verifyOf(log));
-            dueTold("verify of a gap over " + over, log, good ? -1 : 0, good ? -1 : 0, good ? 1 : 0, 0, good ? over : 0);
+            int bad = good ? -1 : 0;
+            dueTold("verify of a gap over " + over, log, bad, bad, good ? 1 : 0, 0, good ? over : 0);
             Checks.due("its index", good ? over : -1, log.record(0, 1));
         }
         // An entry of 41 bytes, a seal with two and a kind 4, each with the tag that it would have.
