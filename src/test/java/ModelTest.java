@@ -4,6 +4,7 @@ import java.util.Random;
 final class ModelTest {
     private static final int RUNS = 1500;
     private static final int CALLS = 512;
+    private static final int LOOK = 200;
     private static final int[] WILD = {
         Integer.MIN_VALUE, Integer.MIN_VALUE + 7, -2, -1, 0, 1, 4, 5, 6, 7, 8, 15, 16, 17, 40, 42, 43,
         119, 120, 1199, 1200, 1201, Integer.MAX_VALUE - 9, Integer.MAX_VALUE
@@ -17,6 +18,7 @@ final class ModelTest {
     private final int bends;
     private final int crashes;
     private final int[] key = new int[4];
+    private int calls = 0;
 
     private ModelTest(int seed) {
         random = new Random(seed);
@@ -32,11 +34,13 @@ final class ModelTest {
         Checks.end();
     }
 
+    /** Every other run keeps some of its calls back, to look at the state that it ends in. */
     private void run() {
-        for (int call = 0; call < CALLS; call++) {
-            step(name + " call " + call);
-            if (call % 32 == 31) {
-                same(name + " call " + call + ": the counts");
+        int last = random.nextInt(2) == 0 ? CALLS : CALLS - LOOK;
+        for (int turn = 0; calls < last; turn++) {
+            step(name + " call " + calls);
+            if (turn % 32 == 31) {
+                same(name + " call " + calls + ": the counts");
             }
         }
         sameDisk(name + ": the disk at the end");
@@ -54,17 +58,21 @@ final class ModelTest {
     }
 
     private void sameDisk(String what) {
-        for (int k = -1; k <= model.disk.length; k++) {
-            int place = k;
-            both(what, () -> log.octet(place), () -> model.octet(place));
-        }
         for (int k = 0; k < 16; k++) {
             int place = k;
             both(what, () -> log.key(place), () -> model.key(place));
         }
+        while (calls < CALLS) {
+            int place = random.nextInt(model.disk.length + 1);
+            both(what, () -> log.octet(place), () -> model.octet(place));
+        }
     }
 
     private void both(String what, Checks.Call mine, Checks.Call due) {
+        if (calls == CALLS) {
+            return;
+        }
+        calls++;
         Checks.dueText(what, Checks.answerOf(due), Checks.answerOf(mine));
     }
 
@@ -94,6 +102,7 @@ final class ModelTest {
         for (int k = 0; k < 4; k++) {
             key[k] = random.nextInt();
         }
+        calls++;
         log.begin(key[0], key[1], key[2], key[3]);
         model.begin(key[0], key[1], key[2], key[3]);
     }

@@ -1,10 +1,7 @@
 import java.util.Arrays;
 
 /** For each promise its ordinary answers, its edges and its wrong inputs; the hashes due are the library's own. */
-final class PromisesTest {
-    private static final int LOW = Integer.MIN_VALUE;
-    private static final int HIGH = Integer.MAX_VALUE;
-
+final class PromisesTest extends Logs {
     private PromisesTest() {
     }
 
@@ -35,101 +32,6 @@ final class PromisesTest {
         key();
         count();
         Checks.end();
-    }
-
-    /** A log with this key 0 and an empty buffer. */
-    private static ForwardLog fresh() {
-        ForwardLog log = new ForwardLog();
-        log.begin(1, -2, 3, -4);
-        return log;
-    }
-
-    private static byte[] keyAt(int index) {
-        byte[] key = Model.keyOf(1, -2, 3, -4);
-        for (int k = 0; k < index; k++) {
-            key = Model.nextKey(key);
-        }
-        return key;
-    }
-
-    private static int verifyOf(ForwardLog log) {
-        return log.verify(1, -2, 3, -4);
-    }
-
-    /** The buffer has then just so many bytes, first, first + 1 and on. */
-    private static void fill(ForwardLog log, int many, int first) {
-        log.erase();
-        for (int k = 0; k < many; k++) {
-            log.feed(1, first + k << 24, 0, 0, 0);
-        }
-    }
-
-    private static void entry(ForwardLog log, int many, int first) {
-        fill(log, many, first);
-        log.append();
-    }
-
-    private static byte[] counting(int many, int first) {
-        byte[] bytes = new byte[many];
-        for (int k = 0; k < many; k++) {
-            bytes[k] = (byte) (first + k);
-        }
-        return bytes;
-    }
-
-    private static byte[] diskOf(ForwardLog log) {
-        byte[] disk = new byte[log.count(0)];
-        for (int k = 0; k < disk.length; k++) {
-            disk[k] = (byte) log.octet(k);
-        }
-        return disk;
-    }
-
-    private static byte[] recordOf(int index, int kind, byte[] bytes, byte[] before) {
-        byte[] head = {(byte) kind, (byte) bytes.length};
-        return Model.join(Model.join(head, bytes), Model.tagOf(keyAt(index), index, kind, bytes, before));
-    }
-
-    private static byte[] tagOf(byte[] record) {
-        return Arrays.copyOfRange(record, record.length - 8, record.length);
-    }
-
-    private static void dueBytes(String what, byte[] want, byte[] got) {
-        Checks.dueText(what, Arrays.toString(want), Arrays.toString(got));
-    }
-
-    private static void dueKey(String what, byte[] want, ForwardLog log) {
-        byte[] got = new byte[16];
-        for (int k = 0; k < 16; k++) {
-            got[k] = (byte) log.key(k);
-        }
-        dueBytes(what, want, got);
-    }
-
-    private static void dueCounts(String what, ForwardLog log, int disk, int synced, int index, int up, int crashes) {
-        Checks.due(what + ": disk", disk, log.count(0));
-        Checks.due(what + ": synced", synced, log.count(1));
-        Checks.due(what + ": index", index, log.count(2));
-        Checks.due(what + ": up", up, log.count(3));
-        Checks.due(what + ": crashes", crashes, log.count(4));
-    }
-
-    private static void dueTold(String what, ForwardLog log, int bad, int begin, int good, int seal, int passed) {
-        int[] want = {bad, begin, good, seal, passed};
-        for (int k = 0; k < want.length; k++) {
-            Checks.due(what + ": told " + k, want[k], log.told(k));
-        }
-    }
-
-    /** Bends the disk's bytes from a place on to these. */
-    private static void bendTo(ForwardLog log, int place, byte[] want) {
-        for (int k = 0; k < want.length; k++) {
-            for (int bit = 0; bit < 8; bit++) {
-                if (((log.octet(place + k) ^ want[k]) >> bit & 1) == 1) {
-                    log.bend(place + k, bit);
-                }
-            }
-        }
     }
 
     private static void aNewObject() {
@@ -511,10 +413,10 @@ final class PromisesTest {
         log.sync();
         log.seal();
         log.crash(7);
-        byte[] before = diskOf(log);
+        byte[] before = diskFrom(log, 1140);
         Checks.due("recover where 11 are left", -2, log.recover());
         dueCounts("recover where 11 are left", log, 1196, 1189, 25, 0, 1);
-        dueBytes("recover where 11 are left: disk", before, diskOf(log));
+        dueBytes("recover where 11 are left: the disk's end", before, diskFrom(log, 1140));
         dueKey("recover where 11 are left: key", keyAt(25), log);
         Checks.due("recover again", -2, log.recover());
         Checks.dueThrow("append then", Checks.STATE, log::append);
